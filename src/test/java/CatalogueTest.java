@@ -120,6 +120,7 @@ public final class CatalogueTest {
         Bench.same("code 11 stays with kind 5", x.kind(5, 11, 9, 1, 10, 100, 0), 5);
         Bench.same("kind 5 gets another code", x.kind(5, 14, 9, 1, 10, 100, 0), -1);
         Bench.same("code 11 is free then", x.kind(6, 11, 7, 2, 10, 100, 0), -1);
+        Bench.same("kind 0, without a code, has not code 1", x.kind(7, 1, 7, 2, 10, 100, 0), -1);
         Bench.same("code 14 goes to kind 0", x.kind(0, 14, 3, 0, 10, 100, 0), 5);
         int first = Bench.judgeGood(x, 11, 0);
         Bench.same("code 11 is kind 6", x.container(first, 3), 6);

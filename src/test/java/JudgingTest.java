@@ -229,6 +229,12 @@ public final class JudgingTest {
         x.forward(1);
         Bench.same("bin", x.bin(0, 0), 1);
         Bench.same("behind the bin", x.total(18), 0);
+        x.enter(10);
+        x.forward(60);
+        x.back(50);
+        Bench.same("50 steps since the bin", x.total(18), 0);
+        x.back(1);
+        Bench.same("51 steps since the bin", x.total(18), 1);
     }
 
     private static void suspicionEndsInTheSameStep() {

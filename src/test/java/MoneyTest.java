@@ -15,6 +15,7 @@ public final class MoneyTest {
         binArguments();
         totalArguments();
         offComesFirst();
+        offWithAnEmptyBelt();
         Bench.end();
     }
 
@@ -162,14 +163,16 @@ public final class MoneyTest {
     }
 
     private static void sumAboveTenThousand() {
-        BottleReturn x = Bench.stocked();
-        x.empty(1, 200);
-        for (int i = 0; i < 21; i++) {
-            Bench.binGood(x, 12, i);
+        for (int i = 20; i <= 21; i++) {
+            BottleReturn x = Bench.stocked();
+            for (int j = 0; j < i; j++) {
+                Bench.binGood(x, 12, j);
+            }
+            x.voucher();
+            Bench.same("sum", x.about(1, 0), 500 * i);
+            Bench.same("first digits with 0" + 500 * i, x.about(1, 1), 101);
+            Bench.same("last but two with 0" + 500 * i, x.about(1, 2) / 100, (500 * i - 10000) * 100 + 37);
         }
-        x.voucher();
-        Bench.same("first digits with 010500", x.about(1, 1), 101);
-        Bench.same("last digits but two with 010500", x.about(1, 2) / 100, 50037);
     }
 
     private static void check() {
@@ -294,5 +297,16 @@ public final class MoneyTest {
         Bench.badArgument(x, "bad bin", () -> x.bin(3, 0));
         Bench.badArgument(x, "bad total", () -> x.total(21));
         Bench.badArgument(x, "bad container", () -> x.container(99, 0));
+    }
+
+    private static void offWithAnEmptyBelt() {
+        BottleReturn x = Bench.stocked();
+        Bench.binGood(x, 11, 0);
+        x.cut(1);
+        x.voucher();
+        Bench.same("belt", x.belt(0), BottleReturn.NONE);
+        Bench.badState(x, "service", () -> x.service());
+        Bench.badState(x, "kind", () -> x.kind(0, 1, 1, 0, 0, 0, 0));
+        Bench.badState(x, "enter", () -> x.enter(5));
     }
 }
