@@ -4,6 +4,7 @@ public final class BeltTest {
         enterArguments();
         enterNeedsSpace();
         enterBehindOneThatIsGone();
+        enterAfresh();
         fullBelt();
         codes();
         widths();
@@ -59,6 +60,41 @@ public final class BeltTest {
         Bench.same("the first has its rear at 3", x.enter(5), 0);
         x.forward(1);
         Bench.same("the first has its rear at 4", x.enter(5), 3);
+    }
+
+    /** A new container has nothing of one that was on the belt before it. */
+    private static void enterAfresh() {
+        BottleReturn x = Bench.stocked();
+        Bench.binGood(x, 11, 0);
+        Bench.judgeGood(x, 11, 1);
+        x.back(300);
+        for (int number = 3; number <= 5; number++) {
+            Bench.same("number", x.enter(7), number);
+            int[] due = {0, 7, 0, BottleReturn.NONE, 0, 0, 0};
+            for (int what = 0; what < due.length; what++) {
+                Bench.same("container(" + number + ", " + what + ")", x.container(number, what), due[what]);
+            }
+            x.forward(15);
+            x.code(11);
+            x.forward(15);
+            x.width(60);
+            x.back(300);
+        }
+        Bench.same("a weight is not kept for the next", weightOfTheNext(), 4);
+    }
+
+    private static int weightOfTheNext() {
+        BottleReturn x = Bench.stocked();
+        Bench.readGood(x, 11, 0);
+        x.back(300);
+        x.enter(40);
+        x.forward(35);
+        x.code(11);
+        for (int width : Bench.PLAIN) {
+            x.width(width);
+        }
+        x.forward(65);
+        return Bench.judgement(x, 2);
     }
 
     private static void fullBelt() {

@@ -9,6 +9,8 @@ public final class CatalogueTest {
         contourNeverSet();
         kindArguments();
         kindCodeMoves();
+        kindKeepsItsOwnCode();
+        kindThatLostItsCode();
         kindNeedsEmptyBelt();
         kindDecides();
         allKinds();
@@ -126,6 +128,29 @@ public final class CatalogueTest {
         Bench.same("code 11 is kind 6", x.container(first, 3), 6);
         int second = Bench.judgeGood(x, 14, 1);
         Bench.same("code 14 is kind 0", x.container(second, 3), 0);
+    }
+
+    private static void kindKeepsItsOwnCode() {
+        BottleReturn x = Bench.stocked();
+        Bench.same("the same kind", x.kind(0, 11, 9, 2, 50, 50, 0), 0);
+        int number = Bench.judgeGood(x, 11, 0);
+        Bench.same("it has the code still", x.container(number, 3), 0);
+        x.forward(50);
+        Bench.same("with the new deposit", x.total(0), 9);
+        Bench.same("and the new bin", x.bin(2, 0), 1);
+        int light = Bench.readAll(x, 10, 11, Bench.variant(1), 49);
+        x.forward(25);
+        Bench.same("and the new weights", Bench.judgement(x, light), 4);
+    }
+
+    private static void kindThatLostItsCode() {
+        BottleReturn x = Bench.stocked();
+        Bench.same("code 11 goes to the greatest kind", x.kind(39, 11, 3, 2, 10, 100, 0), 0);
+        Bench.same("kind 0 has none to lose", x.kind(0, 20, 8, 0, 10, 100, 0), BottleReturn.NONE);
+        Bench.same("code 11 is still there", x.kind(39, 12, 3, 2, 10, 100, 0), 1);
+        Bench.same("nobody has code 11 now", x.kind(1, 11, 8, 1, 10, 100, 0), BottleReturn.NONE);
+        int number = Bench.judgeGood(x, 12, 0);
+        Bench.same("code 12", x.container(number, 3), 39);
     }
 
     private static void kindNeedsEmptyBelt() {

@@ -8,6 +8,7 @@ public final class MoneyTest {
         clearKeepsTheOthers();
         sixtyVouchers();
         numbers();
+        sumsAroundTenThousand();
         check();
         about();
         emptyBins();
@@ -129,6 +130,9 @@ public final class MoneyTest {
         Bench.same("no 61st", x.voucher(), 0);
         Bench.same("no record of that", x.total(19), records);
         Bench.same("the credit stays", x.total(0), 25);
+        Bench.badArgument(x, "redeem 61 with 60 kept", () -> x.redeem(61));
+        Bench.badArgument(x, "about 61 with 60 kept", () -> x.about(61, 0));
+        Bench.same("the 60th", x.about(60, 0), 25);
         x.redeem(30);
         Bench.same("no 61st while the redeemed is kept", x.voucher(), 0);
         x.clear();
@@ -159,19 +163,26 @@ public final class MoneyTest {
         }
         Bench.yes("a number that ends in 02", seen[2] > 0);
         Bench.yes("a number that ends in 98", seen[98] > 0);
-        sumAboveTenThousand();
     }
 
-    private static void sumAboveTenThousand() {
-        for (int i = 20; i <= 21; i++) {
-            BottleReturn x = Bench.stocked();
-            for (int j = 0; j < i; j++) {
-                Bench.binGood(x, 12, j);
+    /** The sum's six digits are parted: two are among the eight first ones, four among the last. */
+    private static void sumsAroundTenThousand() {
+        int[] sums = {1, 99, 100, 9999, 10000, 10001, 19999, 20000};
+        int[] first = {100, 100, 100, 100, 101, 101, 101, 102};
+        int[] last = {137, 9937, 10037, 999937, 37, 137, 999937, 37};
+        for (int i = 0; i < sums.length; i++) {
+            BottleReturn x = new BottleReturn();
+            x.contour(0, Bench.SIXTIES, Bench.SIXTIES, 8);
+            x.empty(0, 200);
+            for (int left = sums[i]; left > 0; left -= Math.min(left, 500)) {
+                x.kind(0, 11, Math.min(left, 500), 0, 10, 100, 0);
+                Bench.binGood(x, 11, left / 500);
             }
             x.voucher();
-            Bench.same("sum", x.about(1, 0), 500 * i);
-            Bench.same("first digits with 0" + 500 * i, x.about(1, 1), 101);
-            Bench.same("last but two with 0" + 500 * i, x.about(1, 2) / 100, (500 * i - 10000) * 100 + 37);
+            Bench.same("sum", x.about(1, 0), sums[i]);
+            Bench.same("first digits with sum " + sums[i], x.about(1, 1), first[i]);
+            Bench.same("last but two with sum " + sums[i], x.about(1, 2) / 100, last[i]);
+            Bench.yes("check with sum " + sums[i], x.check(x.about(1, 1), x.about(1, 2)));
         }
     }
 
