@@ -61,36 +61,8 @@ final class Bench {
         }
     }
 
-    /** All that a machine tells of itself. */
     static String snapshot(BottleReturn x) {
-        StringBuilder all = new StringBuilder();
-        for (int what = 0; what <= 20; what++) {
-            all.append(x.total(what)).append(' ');
-        }
-        for (int bin = 0; bin < 3; bin++) {
-            all.append("bin ").append(x.bin(bin, 0)).append('/').append(x.bin(bin, 1)).append(' ');
-        }
-        for (int i = 0; x.belt(i) != BottleReturn.NONE; i++) {
-            all.append("container ").append(x.belt(i));
-            for (int what = 0; what <= 6; what++) {
-                all.append(' ').append(x.container(x.belt(i), what));
-            }
-        }
-        int left = x.total(14);
-        for (int serial = 1; left > 0; serial++) {
-            String voucher = aboutVoucher(x, serial);
-            all.append(voucher);
-            left -= voucher.isEmpty() ? 0 : 1;
-        }
-        return all.toString();
-    }
-
-    private static String aboutVoucher(BottleReturn x, int serial) {
-        try {
-            return " voucher " + serial + " " + x.about(serial, 0) + " " + x.about(serial, 3);
-        } catch (IllegalArgumentException e) {
-            return "";
-        }
+        return Face.snapshot(Face.of(x));
     }
 
     /** Kinds 0, 1 and 2 with codes 11, 12 and 13, for bins 0, 1 and 2, all with contour 0. */

@@ -1,5 +1,8 @@
 /** The calls of the face by their names, so that a test can keep calls as data. */
 interface Face {
+    /** Far above what any run of a test issues or has on a belt: a wrong machine must not hang a test. */
+    int MOST = 1000;
+
     /** A boolean answer counts 1 or 0; a call without an answer counts 0. */
     int call(String name, int... a);
 
@@ -52,7 +55,7 @@ interface Face {
             all.append("bin ").append(face.call("bin", bin, 0)).append('/');
             all.append(face.call("bin", bin, 1)).append(' ');
         }
-        for (int i = 0; face.call("belt", i) != BottleReturn.NONE; i++) {
+        for (int i = 0; i < MOST && face.call("belt", i) != BottleReturn.NONE; i++) {
             int number = face.call("belt", i);
             all.append("container ").append(number);
             for (int what = 0; what <= 6; what++) {
@@ -66,7 +69,7 @@ interface Face {
     private static String vouchers(Face face) {
         StringBuilder all = new StringBuilder();
         int left = face.call("total", 14);
-        for (int serial = 1; left > 0; serial++) {
+        for (int serial = 1; left > 0 && serial <= MOST; serial++) {
             if (answer(face, "about", serial, 0).equals("IllegalArgumentException")) {
                 continue;
             }

@@ -19,6 +19,7 @@ public final class JudgingTest {
         alikeCountsTheAcceptedOnly();
         alikeInEveryWidth();
         alikeThoughForgotten();
+        alikeCountsEachAcceptance();
         firstReasonWins();
         totalCountsEach();
         Bench.end();
@@ -312,6 +313,30 @@ public final class JudgingTest {
             x.service();
         }
         Bench.same("alike to three that went back", judgedAs(x, 11, Bench.PLAIN, 50), 9);
+    }
+
+    /** The second goes back from rear 60 to 14, where all three places read it anew. */
+    private static void alikeCountsEachAcceptance() {
+        BottleReturn x = Bench.stocked();
+        Bench.binGood(x, 11, 0);
+        int twice = Bench.readAll(x, 40, 11, Bench.PLAIN, 50);
+        x.forward(55);
+        Bench.same("accepted", Bench.judgement(x, twice), 10);
+        x.back(46);
+        readAgain(x);
+        x.forward(46);
+        Bench.same("accepted again", Bench.judgement(x, twice), 10);
+        Bench.same("three records of acceptance", x.total(19), 3 + 2);
+        x.forward(50);
+        Bench.same("alike to three acceptances of two", judgedAs(x, 11, Bench.PLAIN, 50), 9);
+    }
+
+    private static void readAgain(BottleReturn x) {
+        Bench.yes("code again", x.code(11));
+        for (int width : Bench.PLAIN) {
+            Bench.yes("width again", x.width(width));
+        }
+        Bench.yes("weigh again", x.weigh(50));
     }
 
     private static void firstReasonWins() {
