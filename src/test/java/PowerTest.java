@@ -18,6 +18,8 @@ public final class PowerTest {
         powerIsCut();
         suspicionIsKept();
         notAcceptedIsNotLatest();
+        likenessIsKept();
+        blockedWhileOff();
         Bench.end();
     }
 
@@ -325,5 +327,32 @@ public final class PowerTest {
         }
         int number = Bench.judgeGood(x, 11, 0);
         Bench.same("the fourth", Bench.judgement(x, number), 9);
+    }
+
+    private static void likenessIsKept() {
+        BottleReturn x = Bench.stocked();
+        for (int i = 0; i < 3; i++) {
+            Bench.binGood(x, 11, 0);
+        }
+        x.cut(1);
+        Bench.same("give", x.give(), 0);
+        Bench.same("power", x.power(), 0);
+        Bench.same("the fourth alike", Bench.judgement(x, Bench.judgeGood(x, 11, 0)), 9);
+    }
+
+    private static void blockedWhileOff() {
+        BottleReturn x = Bench.stocked();
+        Bench.binGood(x, 11, 0);
+        x.enter(10);
+        Bench.same("steps", x.forward(300), 104);
+        x.cut(1);
+        Bench.same("voucher", x.voucher(), 0);
+        Bench.same("it is off", x.total(16), 0);
+        Bench.same("blocked while off", x.total(17), 1);
+        Bench.same("power", x.power(), 0);
+        Bench.same("still blocked", x.total(17), 1);
+        Bench.same("no step", x.forward(1), 0);
+        x.back(1);
+        Bench.same("not blocked at 103", x.total(17), 0);
     }
 }
